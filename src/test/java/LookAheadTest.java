@@ -1,0 +1,209 @@
+/** Promises 17 to 22: what would be. */
+public final class LookAheadTest {
+    private static final Expect expect = new Expect("LookAheadTest");
+
+    public static void main(String[] args) {
+        promise17Ends();
+        promise17EndsAt500();
+        promise18EndOf();
+        promise19Later();
+        promise20Contested();
+        promise21FirstEdit();
+        promise22Alone();
+        nothingChanges();
+        expect.finish();
+    }
+
+    private static void promise17Ends() {
+        OrderChains x = Engines.loaded("E030150020112@2003015002@2512s000s120");
+        expect.that("ends(0)", x.ends(0), 7);
+        expect.that("ends(1)", x.ends(1), 8);
+        expect.that("ends(2) of an idle one", x.ends(2), 0);
+        x.run(7);
+        expect.that("ends(0) of a done one", x.ends(0), 0);
+        expect.that("ends(1) at last", x.ends(1), 1);
+        x.start(2, 91);
+        x.run(1);
+        expect.that("ends(2) of a busy one", x.ends(2), x.channel(2, 0) == 1 ? 1 : 0);
+        x.run(9);
+        expect.that("ends(2) of a faulty one", x.ends(2), 0);
+        for (int h : Engines.NOT_CHANNELS) {
+            expect.fails("ends(" + h + ")", Engines.INDEX, () -> x.ends(h));
+        }
+    }
+
+    /** Four fills of 99, 99, 99, 99 units and one of 98: they end behind 500 ticks, with the stop. */
+    private static OrderChains longRun(int lastCount) {
+        OrderChains x = new OrderChains();
+        for (int k = 0; k < 5; k++) {
+            x.order(6 * k, 3, 1, 80, k < 4 ? 99 : lastCount);
+            x.poke(6 * k + 4, 0);
+        }
+        x.start(0, 0);
+        return x;
+    }
+
+    private static void promise17EndsAt500() {
+        expect.that("ends behind 499", longRun(97).ends(0), 4 * 100 + 98 + 1);
+        expect.that("ends behind 500", longRun(98).ends(0), 500);
+        expect.that("ends behind 501", longRun(99).ends(0), OrderChains.NONE);
+        expect.that("endOf behind 499", longRun(97).endOf(0), 0);
+        expect.that("endOf behind 500", longRun(98).endOf(0), 0);
+        expect.that("endOf behind 501", longRun(99).endOf(0), OrderChains.NONE);
+        OrderChains faulty = longRun(98);
+        faulty.poke(30, 7);
+        expect.that("a fault behind 500", faulty.endOf(0), 2);
+        OrderChains late = longRun(99);
+        late.poke(30, 7);
+        expect.that("a fault behind 501", late.endOf(0), OrderChains.NONE);
+        late.run(1);
+        expect.that("a fault behind 500, a tick later", late.endOf(0), 2);
+        expect.that("ends behind 500, a tick later", late.ends(0), 500);
+        OrderChains edit = longRun(98);
+        edit.order(24, 3, 1, 0, 98);
+        edit.poke(28, 0);
+        expect.that("a first edit behind four hundred ticks", edit.firstEdit(), 0);
+        OrderChains alone = longRun(99);
+        expect.that("alone in 500 ticks", alone.alone(0), 495);
+        expect.that("alone a unit less", longRun(98).alone(0), 494);
+    }
+
+    private static void promise18EndOf() {
+        OrderChains x = Engines.loaded("E07@20039900050106@3003013001@4003996001s000s120s291");
+        expect.that("endOf: a kind above 6", x.endOf(0), 2);
+        expect.that("endOf: a head above 90", x.endOf(2), 1);
+        OrderChains y = Engines.loaded("E030195020112o3@50000102@20o0030150020112@30009900s000s120s230");
+        expect.that("endOf: a cell above 95", y.endOf(0), 3);
+        expect.that("endOf: a foreign cell", y.endOf(1), 4);
+        expect.that("endOf: done", y.endOf(2), 0);
+        y.run(99);
+        expect.that("endOf now: a cell above 95", y.endOf(0), 3);
+        expect.that("endOf now: a foreign cell", y.endOf(1), 4);
+        expect.that("endOf now: done", y.endOf(2), 0);
+        y.start(2, 30);
+        y.stop(2);
+        expect.that("endOf: idle", y.endOf(2), OrderChains.NONE);
+        OrderChains z = Engines.loaded("E010000000000s000");
+        expect.that("endOf: for ever", z.endOf(0), OrderChains.NONE);
+        expect.that("ends: for ever", z.ends(0), OrderChains.NONE);
+        expect.that("endOf: idle beside a busy one", z.endOf(1), OrderChains.NONE);
+        for (int h : Engines.NOT_CHANNELS) {
+            expect.fails("endOf(" + h + ")", Engines.INDEX, () -> z.endOf(h));
+        }
+    }
+
+    private static void promise19Later() {
+        OrderChains x = Engines.loaded("E040150990000s000");
+        expect.that("later(50, 0)", x.later(50, 0), 0);
+        expect.that("later(50, 1)", x.later(50, 1), 0);
+        expect.that("later(50, 2)", x.later(50, 2), 1);
+        expect.that("later(50, 100)", x.later(50, 100), 99);
+        expect.that("later(50, 101)", x.later(50, 101), 99);
+        expect.that("later(50, 102)", x.later(50, 102), 0);
+        expect.that("later(50, 499)", x.later(50, 499), (499 - 5) % 100);
+        expect.that("later(50, 500)", x.later(50, 500), (500 - 5) % 100);
+        expect.that("later(95, 500)", x.later(95, 500), 0);
+        expect.that("later of its own cell", x.later(0, 0), 4);
+        x.run(50);
+        expect.that("later from then on", x.later(50, 1), 50);
+        x.stop(0);
+        expect.that("later without ticks", x.later(50, 500), 49);
+        for (int c : Engines.NOT_CELLS) {
+            expect.fails("later(" + c + ", 0)", Engines.INDEX, () -> x.later(c, 0));
+            expect.fails("later(" + c + ", 501)", Engines.INDEX, () -> x.later(c, 501));
+        }
+        int[] wrong = {-1, 501, Integer.MIN_VALUE, Integer.MAX_VALUE};
+        for (int n : wrong) {
+            expect.fails("later(0, " + n + ")", Engines.ARGUMENT, () -> x.later(0, n));
+        }
+    }
+
+    private static void promise20Contested() {
+        OrderChains y = Engines.loaded("E030150040190@10030152040190@20030253010190s000s110s220");
+        expect.that("y: contested(0)", y.contested(0), 0);
+        expect.that("y: contested(7)", y.contested(7), 0);
+        expect.that("y: contested(8)", y.contested(8), 1);
+        expect.that("y: contested(9)", y.contested(9), 1);
+        expect.that("y: contested(10)", y.contested(10), 2);
+        expect.that("y: contested(500)", y.contested(500), 2);
+        y.run(9);
+        expect.that("y: writes that were count no more", y.contested(500), 0);
+        OrderChains z = Engines.loaded("E030150000190@10055050010190@20033350010190s000s110s220");
+        expect.that("z: an exchange of one cell is no write", z.contested(500), 0);
+        OrderChains w = Engines.loaded("E055060010190@10033360010190@20033350010190s000s110s220");
+        expect.that("w: both cells of an exchange", w.contested(500), 2);
+        OrderChains v = Engines.loaded("E030150090090@10035052010190s000s110");
+        expect.that("v: one channel alone writes a cell often", v.contested(500), 0);
+        OrderChains u = Engines.loaded("E030150010112@12030150010190s000");
+        u.run(9);
+        u.start(1, 12);
+        expect.that("u: a write before now is none of the next ticks", u.contested(500), 0);
+        int[] wrong = {-1, 501, Integer.MIN_VALUE, Integer.MAX_VALUE};
+        for (int n : wrong) {
+            expect.fails("contested(" + n + ")", Engines.ARGUMENT, () -> y.contested(n));
+        }
+    }
+
+    private static void promise21FirstEdit() {
+        OrderChains x = Engines.loaded("E030150030112@2003010401@2590s000s120");
+        expect.that("firstEdit of channel 1 in cell 4", x.firstEdit(), 104);
+        x.run(4);
+        expect.that("firstEdit behind it", x.firstEdit(), OrderChains.NONE);
+        OrderChains y = Engines.loaded("E050502010112s000");
+        expect.that("firstEdit of an exchange: from first", y.firstEdit(), 5);
+        OrderChains z = Engines.loaded("E055002010112s200");
+        expect.that("firstEdit of an exchange: to alone", z.firstEdit(), 202);
+        OrderChains w = Engines.loaded("E030150010112s000");
+        expect.that("no edit", w.firstEdit(), OrderChains.NONE);
+        w.start(0, 50);
+        w.run(1);
+        w.start(0, 0);
+        expect.that("firstEdit of a cell that was read before", w.firstEdit(), 50);
+        expect.that("firstEdit of a new object", new OrderChains().firstEdit(), OrderChains.NONE);
+        OrderChains v = longRun(99);
+        v.poke(26, 30);
+        v.order(30, 3, 1, 0, 1);
+        expect.that("an edit behind more than 500 ticks", v.firstEdit(), OrderChains.NONE);
+        v.run(99);
+        expect.that("an edit in less than 500 ticks", v.firstEdit(), 0);
+    }
+
+    private static void promise22Alone() {
+        OrderChains x = Engines.loaded("E030120090112@12030150020190@20000000s000s120s212");
+        expect.that("alone(0)", x.alone(0), 11);
+        expect.that("alone(2)", x.alone(2), 2);
+        expect.that("alone(1)", x.alone(1), 0);
+        x.run(12);
+        expect.that("alone(0) counts from now on", x.alone(0), 11 - x.channel(0, 7));
+        expect.that("some cells were written", x.channel(0, 7) > 0 ? 1 : 0, 1);
+        x.run(99);
+        expect.that("alone of a done one", x.alone(0), 0);
+        x.stop(x.start(1, 0) == 2 ? 1 : 0);
+        expect.that("alone of an idle one", x.alone(1), 0);
+        OrderChains y = Engines.loaded("E040150990000@1003000301@1590s000s110");
+        expect.that("alone in 500 ticks of one's own", y.alone(0), 495);
+        OrderChains z = Engines.loaded("E055060020112s000");
+        expect.that("alone: an exchange writes two cells", z.alone(0), 4);
+        for (int h : Engines.NOT_CHANNELS) {
+            expect.fails("alone(" + h + ")", Engines.INDEX, () -> x.alone(h));
+        }
+    }
+
+    private static void nothingChanges() {
+        OrderChains x = Engines.loaded("E030120090112@12030150020190@20000000s000s120s212");
+        x.run(5);
+        String before = Engines.everything(x);
+        for (int h = 0; h < 3; h++) {
+            x.ends(h);
+            x.endOf(h);
+            x.alone(h);
+        }
+        x.later(50, 500);
+        x.contested(500);
+        x.firstEdit();
+        x.runScript(3, 203031000020099L);
+        x.simulate(77, 50);
+        expect.that("looking ahead changes nothing", Engines.everything(x).equals(before) ? 1 : 0, 1);
+        expect.that("looking ahead is no action", x.undo(), 0);
+    }
+}

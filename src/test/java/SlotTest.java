@@ -1,0 +1,109 @@
+/** Promises 25 and 26: save slots. */
+public final class SlotTest {
+    private static final Expect expect = new Expect("SlotTest");
+    private static final int[] NOT_SLOTS = {-1, 2, 3, Integer.MIN_VALUE, Integer.MAX_VALUE};
+
+    public static void main(String[] args) {
+        promise25Save();
+        promise26Restore();
+        promise26WholeStates();
+        promise26RememberedStates();
+        promise26EmptySlots();
+        expect.finish();
+    }
+
+    private static void promise25Save() {
+        OrderChains x = Engines.loaded("E030150200112s000");
+        expect.that("save(0) ahead of the first tick", x.save(0), 0);
+        x.run(7);
+        expect.that("save(1)", x.save(1), 7);
+        expect.that("save(0) again", x.save(0), 7);
+        String before = Engines.everything(x);
+        x.save(0);
+        expect.that("save changes nothing", Engines.everything(x).equals(before) ? 1 : 0, 1);
+        expect.that("save is no action", x.undo(), 0);
+        for (int slot : NOT_SLOTS) {
+            expect.fails("save(" + slot + ")", Engines.INDEX, () -> x.save(slot));
+        }
+    }
+
+    private static void promise26Restore() {
+        OrderChains x = Engines.loaded("E030150200112s000");
+        x.run(3);
+        x.save(0);
+        x.run(4);
+        x.save(1);
+        x.run(5);
+        expect.that("restore(0)", x.restore(0), 3);
+        expect.that("ticks then", x.about(0), 3);
+        expect.that("restore(1)", x.restore(1), 7);
+        expect.that("ticks then", x.about(0), 7);
+        x.run(1);
+        expect.that("the slot keeps its state", x.restore(1), 7);
+        expect.that("units in hand", x.channel(0, 5), 6);
+        x.run(1);
+        expect.that("units go on", x.channel(0, 5), 7);
+        x.save(1);
+        expect.that("a slot is replaced", x.restore(1), 8);
+        expect.that("the other slot is not", x.restore(0), 3);
+        for (int slot : NOT_SLOTS) {
+            expect.fails("restore(" + slot + ")", Engines.INDEX, () -> x.restore(slot));
+        }
+        expect.that("the text is kept", x.clearText(), 17);
+    }
+
+    private static void promise26WholeStates() {
+        OrderChains x = Engines.loaded("E055060090112o2@6011223344o0@3003010301@3590s000s130s291");
+        x.run(5);
+        x.poke(70, 4);
+        x.save(1);
+        String saved = Engines.everything(x);
+        x.run(20);
+        x.own(0, 96, 3);
+        x.order(30, 1, 2, 3, 4);
+        x.start(0, 1);
+        x.start(1, 2);
+        x.start(2, 3);
+        x.run(10);
+        expect.that("another state", Engines.everything(x).equals(saved) ? 1 : 0, 0);
+        x.restore(1);
+        expect.that("the whole state is back", Engines.everything(x).equals(saved) ? 1 : 0, 1);
+    }
+
+    private static void promise26RememberedStates() {
+        OrderChains x = new OrderChains();
+        x.poke(0, 1);
+        x.save(0);
+        x.poke(0, 2);
+        expect.that("save keeps the remembered states", x.undo(), 1);
+        x.restore(0);
+        expect.fails("undo behind restore", Engines.STATE, () -> x.undo());
+        expect.that("restore changes nothing by a failed undo", x.cell(0, 0), 1);
+        x.poke(0, 3);
+        expect.that("undo of an action behind restore", x.undo(), 0);
+        expect.that("undo goes back to the restored state", x.cell(0, 0), 1);
+        x.poke(0, 5);
+        x.undo();
+        x.restore(0);
+        expect.that("undo keeps the slots", x.cell(0, 0), 1);
+    }
+
+    private static void promise26EmptySlots() {
+        OrderChains x = new OrderChains();
+        expect.fails("restore(0) of nothing", Engines.STATE, () -> x.restore(0));
+        x.save(0);
+        expect.fails("restore(1) of nothing", Engines.STATE, () -> x.restore(1));
+        x.save(1);
+        Engines.type(x, "E1");
+        expect.fails("load", Engines.STATE, () -> x.load());
+        expect.that("a failed load keeps slot 0", x.restore(0), 0);
+        expect.that("a failed load keeps slot 1", x.restore(1), 0);
+        Engines.type(x, "E11");
+        x.load();
+        expect.fails("restore(0) behind load", Engines.STATE, () -> x.restore(0));
+        expect.fails("restore(1) behind load", Engines.STATE, () -> x.restore(1));
+        x.save(1);
+        expect.that("restore(1) behind load and save", x.restore(1), 0);
+        expect.fails("restore(0) still of nothing", Engines.STATE, () -> x.restore(0));
+    }
+}
