@@ -506,7 +506,6 @@ public final class OrderChains {
         /** The values are kept, because what is written into the order's cells later must not change it. */
         void takeOrder(int[] values) {
             place = head;
-            units = 0;
             kind = values[head];
             from = values[head + 1];
             to = values[head + 2];
@@ -553,7 +552,6 @@ public final class OrderChains {
             ticks = 0;
             edits = 0;
             writes = 0;
-            watchFromHere();
         }
 
         void copyFrom(Engine other) {
@@ -743,14 +741,15 @@ public final class OrderChains {
                 case ADD:
                     write(h, target, (targetValue + channels[h].from) % VALUES);
                     break;
-                case EXCHANGE:
+                case COPY_UP:
+                case COPY_DOWN:
+                    write(h, target, sourceValue);
+                    break;
+                default:
                     if (source != target) {
                         write(h, source, targetValue);
                         write(h, target, sourceValue);
                     }
-                    break;
-                default:
-                    write(h, target, sourceValue);
                     break;
             }
         }
@@ -993,7 +992,7 @@ public final class OrderChains {
                 case 1:
                     return setsValue(engine, front, back);
                 case 2:
-                    return front == 0 && back > 0 && engine.letTicksGoBy(back) > 0;
+                    return front == 0 && engine.letTicksGoBy(back) > 0;
                 case 3:
                     return fifth == 0 && starts(engine, second, middle);
                 case 4:

@@ -11,6 +11,7 @@ public final class ActionTest {
         promise15Run();
         promise16Undo();
         promise16UndoOfEachAction();
+        promise16UndoOfAnOrderInHand();
         promise16FailedCallsAreNotRemembered();
         expect.finish();
     }
@@ -249,6 +250,26 @@ public final class ActionTest {
         x.simulate(5, 3);
         x.runScript(1, 10203);
         expect.that("only actions are remembered", x.undo(), size);
+    }
+
+    private static void promise16UndoOfAnOrderInHand() {
+        OrderChains x = Engines.loaded("E030740030312@12029000020190@90000000s000");
+        x.run(2);
+        x.save(0);
+        x.order(0, 1, 90, 60, 5);
+        x.start(0, 0);
+        x.run(2);
+        for (int left = 3; left > 0; left--) {
+            x.undo();
+        }
+        x.run(2);
+        int[] due = {7, 0, 0, 7, 0, 0, 7, 0};
+        for (int i = 0; i < due.length; i++) {
+            expect.that("a fill that undo brought back: cell " + (40 + i), x.cell(40 + i, 0), due[i]);
+        }
+        expect.that("its next", x.channel(0, 1), 12);
+        x.restore(0);
+        expect.that("stop of a fill that restore brought back", x.stop(0), 2);
     }
 
     private static void checkUndo(OrderChains x, String what, int size, String before) {

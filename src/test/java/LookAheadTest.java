@@ -134,6 +134,10 @@ public final class LookAheadTest {
         expect.that("w: both cells of an exchange", w.contested(500), 2);
         OrderChains v = Engines.loaded("E030150090090@10035052010190s000s110");
         expect.that("v: one channel alone writes a cell often", v.contested(500), 0);
+        OrderChains t = Engines.loaded("E@10030100010190@20030200010190s110s220");
+        expect.that("t: cell 0", t.contested(500), 1);
+        OrderChains s = Engines.loaded("E@10030195010190@20030295010190s110s220");
+        expect.that("s: cell 95", s.contested(500), 1);
         OrderChains u = Engines.loaded("E030150010112@12030150010190s000");
         u.run(9);
         u.start(1, 12);
@@ -180,6 +184,14 @@ public final class LookAheadTest {
         expect.that("alone of a done one", x.alone(0), 0);
         x.stop(x.start(1, 0) == 2 ? 1 : 0);
         expect.that("alone of an idle one", x.alone(1), 0);
+        OrderChains idle = Engines.loaded("E030101010090@12030150020190@24035500990024s000s112s224");
+        for (int h = 0; h < 3; h++) {
+            expect.that("alone(" + h + ") counts its own writes", idle.alone(h), h == 0 ? 1 : h == 1 ? 2 : 495);
+        }
+        OrderChains spoiling = Engines.loaded("E030030010190@12030150030130030160020190@30030160020190s000s112");
+        expect.that("alone(1) though channel 0 would write into its second order", spoiling.alone(1), 5);
+        spoiling.run(99);
+        expect.that("with channel 0 it writes less", spoiling.channel(1, 7), 3);
         OrderChains y = Engines.loaded("E040150990000@1003000301@1590s000s110");
         expect.that("alone in 500 ticks of one's own", y.alone(0), 495);
         OrderChains z = Engines.loaded("E055060020112s000");

@@ -33,6 +33,13 @@ public final class NumbersTest {
         for (int what : wrong) {
             expect.fails("about(" + what + ")", Engines.ARGUMENT, () -> x.about(what));
         }
+        OrderChains owned = new OrderChains();
+        owned.own(0, 1, 1);
+        owned.own(95, 1, 3);
+        expect.that("owners of the first and of the last cell", owned.about(9), 2);
+        owned.poke(0, 40);
+        owned.poke(95, 2);
+        expect.that("sum of the first and of the last cell", owned.about(5), 42);
         OrderChains edited = Engines.loaded("E030502030112s000");
         edited.run(99);
         expect.that("edits of three fills into the order itself", edited.about(6), 3);

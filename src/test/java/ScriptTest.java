@@ -141,6 +141,11 @@ public final class ScriptTest {
     private static void promise23Questions() {
         OrderChains x = Engines.loaded("E030102030112@9509s000s190s291");
         check(x, 1, 60003, NONE);
+        x.poke(70, 25);
+        x.poke(71, 52);
+        check(x, 2, 6702567152L, NONE);
+        check(x, 1, 67052, 0);
+        check(x, 1, 67125, 0);
         check(x, 1, 60004, 0);
         check(x, 1, 69509, NONE);
         check(x, 1, 69500, 0);

@@ -11,6 +11,7 @@ public final class TextTest {
         promise5Load();
         promise5LoadReplacesEverything();
         promise5LoadFails();
+        promise5TextsAreReadAnew();
         expect.finish();
     }
 
@@ -193,6 +194,36 @@ public final class TextTest {
         x.start(0, 0);
         x.start(2, 0);
         expect.that("turns begin anew behind load", x.about(4), 0);
+    }
+
+    /** What earlier texts and looks ahead left must not show in an engine that is loaded later. */
+    private static void promise5TextsAreReadAnew() {
+        String blank = Engines.everything(new OrderChains());
+        OrderChains x = new OrderChains();
+        Engines.type(x, "Eo3030102030112s030s140s291@400101");
+        x.load();
+        x.run(3);
+        x.ends(0);
+        x.errorPosition();
+        Engines.type(x, "E");
+        x.load();
+        expect.that("behind an engine all is new", Engines.everything(x).equals(blank) ? 1 : 0, 1);
+        x.order(0, 3, 7, 1, 3);
+        x.start(1, 0);
+        x.firstEdit();
+        x.load();
+        expect.that("behind a look ahead all is new", Engines.everything(x).equals(blank) ? 1 : 0, 1);
+        x.start(2, 0);
+        x.start(0, 0);
+        expect.that("behind a look ahead turns begin anew", x.about(4), 0);
+        Engines.type(x, "E@50o20708s2105");
+        x.errorPosition();
+        Engines.type(x, "E09s212");
+        expect.that("errorPosition behind a wrong text", x.errorPosition(), OrderChains.NONE);
+        x.load();
+        expect.that("the cell is 0 again", x.cell(0, 0), 9);
+        expect.that("the owner is nobody again", x.cell(0, 1), 0);
+        expect.that("no other cell has a value", x.about(5), 9);
     }
 
     private static void promise5LoadFails() {
