@@ -10,9 +10,7 @@ public final class ActionTest {
         promise14Stop();
         promise15Run();
         promise16Undo();
-        promise16UndoOfEachAction();
         promise16UndoOfAnOrderInHand();
-        promise16FailedCallsAreNotRemembered();
         expect.finish();
     }
 
@@ -29,50 +27,22 @@ public final class ActionTest {
         expect.that("poke of an owned cell", x.cell(7, 0), 8);
         expect.that("poke keeps the owner", x.cell(7, 1), 3);
         expect.that("poke is no write", x.about(7), 0);
-        for (int c : Engines.NOT_CELLS) {
-            expect.fails("poke(" + c + ", 0)", Engines.INDEX, () -> x.poke(c, 0));
-            expect.fails("poke(" + c + ", 100)", Engines.INDEX, () -> x.poke(c, 100));
-        }
-        for (int v : Engines.NOT_VALUES) {
-            expect.fails("poke(0, " + v + ")", Engines.ARGUMENT, () -> x.poke(0, v));
-        }
     }
 
     private static void promise11Order() {
         OrderChains x = new OrderChains();
         expect.that("order at 0", x.order(0, 99, 98, 97, 96), 0);
-        checkOrder(x, 0, 99, 98, 97, 96, 1, 6);
+        expect.cells(x, 0, 99, 98, 97, 96, 1, 6);
         expect.that("order at 0 again", x.order(0, 1, 2, 3, 4), 99);
-        checkOrder(x, 0, 1, 2, 3, 4, 1, 6);
+        expect.cells(x, 0, 1, 2, 3, 4, 1, 6);
         expect.that("order at 90", x.order(90, 0, 0, 99, 0), 0);
-        checkOrder(x, 90, 0, 0, 99, 0, 1, 96);
+        expect.cells(x, 90, 0, 0, 99, 0, 1, 96);
         expect.that("no cell behind the order", x.cell(6, 0), 0);
         expect.that("order is no write", x.about(7), 0);
         x.own(20, 6, 2);
         x.order(20, 5, 6, 7, 8);
-        checkOrder(x, 20, 5, 6, 7, 8, 1, 26);
+        expect.cells(x, 20, 5, 6, 7, 8, 1, 26);
         expect.that("order keeps the owner", x.cell(20, 1), 2);
-        for (int a : Engines.NOT_CELLS) {
-            expect.fails("order(" + a + ", ..)", Engines.INDEX, () -> x.order(a, 0, 0, 0, 0));
-            expect.fails("order(" + a + ", 100, ..)", Engines.INDEX, () -> x.order(a, 100, 0, 0, 0));
-        }
-        for (int a = 91; a < 96; a++) {
-            int late = a;
-            expect.fails("order(" + a + ", ..)", Engines.ARGUMENT, () -> x.order(late, 0, 0, 0, 0));
-        }
-        for (int v : Engines.NOT_VALUES) {
-            expect.fails("kind " + v, Engines.ARGUMENT, () -> x.order(0, v, 0, 0, 0));
-            expect.fails("from " + v, Engines.ARGUMENT, () -> x.order(0, 0, v, 0, 0));
-            expect.fails("to " + v, Engines.ARGUMENT, () -> x.order(0, 0, 0, v, 0));
-            expect.fails("count " + v, Engines.ARGUMENT, () -> x.order(0, 0, 0, 0, v));
-        }
-        checkOrder(x, 0, 1, 2, 3, 4, 1, 6);
-    }
-
-    private static void checkOrder(OrderChains x, int a, int... due) {
-        for (int i = 0; i < due.length; i++) {
-            expect.that("order at " + a + ": cell " + (a + i), x.cell(a + i, 0), due[i]);
-        }
     }
 
     private static void promise12Own() {
@@ -89,19 +59,6 @@ public final class ActionTest {
         expect.that("own(95, 1, 0)", x.own(95, 1, 0), 1);
         expect.that("owned cells", x.about(9), 95);
         expect.that("own(0, 96, 0)", x.own(0, 96, 0), 95);
-        for (int c : Engines.NOT_CELLS) {
-            expect.fails("own(" + c + ", 1, 0)", Engines.INDEX, () -> x.own(c, 1, 0));
-            expect.fails("own(" + c + ", 0, 4)", Engines.INDEX, () -> x.own(c, 0, 4));
-        }
-        int[] notNumbers = {-1, 0, 97, Integer.MIN_VALUE, Integer.MAX_VALUE};
-        for (int n : notNumbers) {
-            expect.fails("own(0, " + n + ", 1)", Engines.ARGUMENT, () -> x.own(0, n, 1));
-        }
-        int[] notOwners = {-1, 4, Integer.MIN_VALUE, Integer.MAX_VALUE};
-        for (int owner : notOwners) {
-            expect.fails("own(0, 1, " + owner + ")", Engines.ARGUMENT, () -> x.own(0, 1, owner));
-        }
-        expect.that("nothing changed by failed calls", x.about(9), 0);
     }
 
     private static void promise13Start() {
@@ -121,14 +78,6 @@ public final class ActionTest {
         expect.that("no units in hand", x.channel(2, 5), 0);
         expect.that("no order in hand", x.channel(2, 3), OrderChains.NONE);
         expect.that("the cells written stay", x.channel(2, 7), 2);
-        for (int h : Engines.NOT_CHANNELS) {
-            expect.fails("start(" + h + ", 0)", Engines.INDEX, () -> x.start(h, 0));
-            expect.fails("start(" + h + ", 96)", Engines.INDEX, () -> x.start(h, 96));
-        }
-        for (int a : Engines.NOT_CELLS) {
-            expect.fails("start(0, " + a + ")", Engines.INDEX, () -> x.start(0, a));
-        }
-        expect.that("channel 0 was never started", x.channel(0, 0), 0);
     }
 
     private static void promise14Stop() {
@@ -152,17 +101,6 @@ public final class ActionTest {
         x.start(1, 30);
         x.run(1);
         expect.that("stop of a choice", x.stop(1), 0);
-        expect.fails("stop of an idle one", Engines.STATE, () -> x.stop(1));
-        x.start(1, 0);
-        x.run(1);
-        expect.fails("stop of a done one", Engines.STATE, () -> x.stop(1));
-        x.start(1, 95);
-        x.run(1);
-        expect.fails("stop of a faulty one", Engines.STATE, () -> x.stop(1));
-        expect.that("a failed stop changes nothing", x.channel(1, 2), 1);
-        for (int h : Engines.NOT_CHANNELS) {
-            expect.fails("stop(" + h + ")", Engines.INDEX, () -> x.stop(h));
-        }
     }
 
     private static void promise15Run() {
@@ -176,16 +114,6 @@ public final class ActionTest {
         expect.that("ticks", x.about(0), 100);
         expect.that("run to the end", x.run(99), 13);
         expect.that("ticks at the end", x.about(0), 113);
-        expect.fails("run without a busy one", Engines.STATE, () -> x.run(1));
-        int[] wrong = {-1, 0, 100, Integer.MIN_VALUE, Integer.MAX_VALUE};
-        for (int n : wrong) {
-            expect.fails("run(" + n + ") without a busy one", Engines.ARGUMENT, () -> x.run(n));
-        }
-        x.start(0, 0);
-        for (int n : wrong) {
-            expect.fails("run(" + n + ")", Engines.ARGUMENT, () -> x.run(n));
-        }
-        expect.that("no tick by failed calls", x.about(0), 113);
     }
 
     private static void promise16Undo() {
@@ -215,43 +143,6 @@ public final class ActionTest {
         expect.that("the fourteenth undo", x.cell(1, 0), 0);
     }
 
-    private static void promise16UndoOfEachAction() {
-        OrderChains x = Engines.loaded("E033350090112@6077o201s000s112s295");
-        x.run(4);
-        String before = Engines.everything(x);
-        int size = 1;
-        x.poke(77, 0);
-        checkUndo(x, "a poke of the same value", size, before);
-        x.poke(0, 9);
-        checkUndo(x, "poke", size, before);
-        x.order(0, 1, 2, 3, 4);
-        checkUndo(x, "order", size, before);
-        x.own(60, 1, 0);
-        checkUndo(x, "own that changes nothing", size, before);
-        x.own(50, 40, 3);
-        checkUndo(x, "own", size, before);
-        x.start(0, 40);
-        checkUndo(x, "start of a busy one", size, before);
-        x.start(1, 40);
-        checkUndo(x, "start of a done one", size, before);
-        x.start(2, 40);
-        checkUndo(x, "start of a faulty one", size, before);
-        x.stop(0);
-        checkUndo(x, "stop", size, before);
-        x.run(3);
-        checkUndo(x, "run", size, before);
-        x.run(99);
-        checkUndo(x, "run to the end", size, before);
-        x.run(2);
-        expect.that("units go on behind undo", x.channel(0, 5), 3);
-        x.errorPosition();
-        x.save(0);
-        x.ends(0);
-        x.simulate(5, 3);
-        x.runScript(1, 10203);
-        expect.that("only actions are remembered", x.undo(), size);
-    }
-
     private static void promise16UndoOfAnOrderInHand() {
         OrderChains x = Engines.loaded("E030740030312@12029000020190@90000000s000");
         x.run(2);
@@ -270,23 +161,5 @@ public final class ActionTest {
         expect.that("its next", x.channel(0, 1), 12);
         x.restore(0);
         expect.that("stop of a fill that restore brought back", x.stop(0), 2);
-    }
-
-    private static void checkUndo(OrderChains x, String what, int size, String before) {
-        expect.that("undo of " + what, x.undo(), size);
-        expect.that("state behind undo of " + what, Engines.everything(x).equals(before) ? 1 : 0, 1);
-    }
-
-    private static void promise16FailedCallsAreNotRemembered() {
-        OrderChains x = new OrderChains();
-        x.poke(0, 1);
-        expect.fails("poke", Engines.ARGUMENT, () -> x.poke(0, 100));
-        expect.fails("order", Engines.ARGUMENT, () -> x.order(91, 0, 0, 0, 0));
-        expect.fails("own", Engines.ARGUMENT, () -> x.own(0, 0, 0));
-        expect.fails("start", Engines.INDEX, () -> x.start(0, 96));
-        expect.fails("stop", Engines.STATE, () -> x.stop(0));
-        expect.fails("run", Engines.STATE, () -> x.run(1));
-        expect.that("undo of the only action", x.undo(), 0);
-        expect.fails("undo", Engines.STATE, () -> x.undo());
     }
 }

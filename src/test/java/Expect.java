@@ -15,6 +15,20 @@ final class Expect {
         }
     }
 
+    void same(String what, String got, String due) {
+        compared++;
+        if (!got.equals(due)) {
+            complain(what + " is " + got + ", due is " + due);
+        }
+    }
+
+    /** Compares the values of the cells from the first one on. */
+    void cells(OrderChains x, int first, int... values) {
+        for (int i = 0; i < values.length; i++) {
+            that("value of " + (first + i), x.cell(first + i, 0), values[i]);
+        }
+    }
+
     /** The exception's class must be exactly the one that is due: the machine itself throws subclasses. */
     void fails(String what, Class<? extends RuntimeException> due, Runnable call) {
         compared++;

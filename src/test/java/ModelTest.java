@@ -9,8 +9,7 @@ import java.util.Random;
 /** Random runs of calls, each answered by the class and by the plain model of the document. */
 public final class ModelTest {
     private static final Expect expect = new Expect("ModelTest");
-    private static final int RUNS = 1500;
-    private static final int CALLS = 512;
+    private static final int RUNS = 2500;
     private static final Map<String, Method> REAL = methodsOf(OrderChains.class);
     private static final Map<String, Method> PLAIN = methodsOf(Machine.class);
     private static final String[] ACTIONS = {
@@ -27,6 +26,8 @@ public final class ModelTest {
     private final PlainModel plain = new PlainModel();
     private final List<String> told = new ArrayList<>();
     private boolean same = true;
+    private int calls = 0;
+    private int mostCalls = Engines.MOST_CALLS;
 
     private ModelTest(long seed) {
         random = new Random(seed);
@@ -48,14 +49,18 @@ public final class ModelTest {
         return all;
     }
 
+    /** Every second run is a short one, which leaves enough calls to compare everything at its end. */
     private void go() {
+        boolean isShort = random.nextBoolean();
+        int mostParts = isShort ? 4 : 30;
+        mostCalls = isShort ? Engines.MOST_CALLS - Engines.CALLS_FOR_EVERYTHING : Engines.MOST_CALLS;
         if (random.nextInt(3) == 0) {
-            typeText();
+            typeText(mostParts);
         }
-        for (int i = 0; i < CALLS && same; i++) {
+        while (calls < mostCalls && same) {
             int choice = random.nextInt(100);
             if (choice < 1) {
-                typeText();
+                typeText(mostParts);
             } else if (choice < 3) {
                 call(pick(new String[] {"append", "clearText", "errorPosition", "load"}));
             } else if (choice < 50) {
@@ -64,13 +69,16 @@ public final class ModelTest {
                 call(pick(QUESTIONS));
             }
         }
-        compareEverything();
+        if (isShort) {
+            mostCalls = Engines.MOST_CALLS;
+            compareEverything();
+        }
     }
 
-    private void typeText() {
+    private void typeText(int mostParts) {
         ask("clearText");
         StringBuilder text = new StringBuilder("E");
-        int parts = random.nextInt(30);
+        int parts = random.nextInt(mostParts);
         for (int k = 0; k < parts; k++) {
             text.append(part());
         }
@@ -91,11 +99,12 @@ public final class ModelTest {
     private String part() {
         switch (random.nextInt(12)) {
             case 0:
-                return "@" + twoDigits(random.nextInt(98));
+                return "@" + Engines.twoDigits(random.nextInt(98));
             case 1:
                 return "o" + random.nextInt(4);
             case 2:
-                return "s" + random.nextInt(3) + twoDigits(random.nextInt(8) == 0 ? random.nextInt(98) : 6 * random.nextInt(10));
+                int head = random.nextInt(8) == 0 ? random.nextInt(98) : 6 * random.nextInt(10);
+                return "s" + random.nextInt(3) + Engines.twoDigits(head);
             case 3:
                 return "@9" + (4 + random.nextInt(2));
             default:
@@ -105,14 +114,16 @@ public final class ModelTest {
 
     private String orderOfDigits() {
         if (random.nextInt(3) == 0) {
-            return twoDigits(random.nextInt(100));
+            return Engines.twoDigits(random.nextInt(100));
         }
-        return "0" + (1 + random.nextInt(6)) + twoDigits(random.nextInt(97)) + twoDigits(random.nextInt(97))
-            + twoDigits(random.nextInt(6)) + twoDigits(random.nextInt(4)) + twoDigits(6 * random.nextInt(10));
-    }
-
-    private static String twoDigits(int n) {
-        return n < 10 ? "0" + n : "" + n;
+        StringBuilder order = new StringBuilder("0");
+        order.append(1 + random.nextInt(6));
+        int[] values = {random.nextInt(97), random.nextInt(97), random.nextInt(6), random.nextInt(4),
+            6 * random.nextInt(10)};
+        for (int v : values) {
+            order.append(Engines.twoDigits(v));
+        }
+        return order.toString();
     }
 
     private String pick(String[] names) {
@@ -223,7 +234,7 @@ public final class ModelTest {
             case 5:
                 return 50000 + 100 * c + 10 * random.nextInt(5) + random.nextInt(10);
             case 6:
-                return 60000 + 100 * c + (c < 96 && random.nextInt(4) > 0 ? real.cell(c, 0) : random.nextInt(100));
+                return 60000 + 100 * c + (c < 96 && random.nextInt(4) > 0 ? plain.cell(c, 0) : random.nextInt(100));
             case 7:
                 return 70000 + 1000 * h + random.nextInt(5) + spoiled % 1000;
             case 8:
@@ -234,9 +245,10 @@ public final class ModelTest {
     }
 
     private void ask(String name, Object... arguments) {
-        if (!same) {
+        if (!same || calls >= mostCalls) {
             return;
         }
+        calls++;
         String got = answer(REAL.get(name), real, arguments);
         String due = answer(PLAIN.get(name), plain, arguments);
         told.add(name + List.of(arguments) + " answered " + got);

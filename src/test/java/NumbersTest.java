@@ -8,7 +8,6 @@ public final class NumbersTest {
         promise8Channel();
         promise8Conditions();
         promise9Chain();
-        promise9WrongArguments();
         expect.finish();
     }
 
@@ -29,10 +28,6 @@ public final class NumbersTest {
         x.run(99);
         int[] ended = {6, 0, 2, 1, OrderChains.NONE, 183, 0, 2, 18, 3};
         checkAbout(x, "ended", ended);
-        int[] wrong = {-1, 10, Integer.MIN_VALUE, Integer.MAX_VALUE};
-        for (int what : wrong) {
-            expect.fails("about(" + what + ")", Engines.ARGUMENT, () -> x.about(what));
-        }
         OrderChains owned = new OrderChains();
         owned.own(0, 1, 1);
         owned.own(95, 1, 3);
@@ -70,15 +65,6 @@ public final class NumbersTest {
         x.start(0, 6);
         x.run(3);
         expect.that("the last writer", x.cell(7, 3), 0);
-        for (int c : Engines.NOT_CELLS) {
-            expect.fails("cell(" + c + ", 0)", Engines.INDEX, () -> x.cell(c, 0));
-            expect.fails("cell(" + c + ", 4)", Engines.INDEX, () -> x.cell(c, 4));
-        }
-        int[] wrong = {-1, 4, Integer.MIN_VALUE, Integer.MAX_VALUE};
-        for (int what : wrong) {
-            expect.fails("cell(0, " + what + ")", Engines.ARGUMENT, () -> x.cell(0, what));
-            expect.fails("cell(95, " + what + ")", Engines.ARGUMENT, () -> x.cell(95, what));
-        }
     }
 
     private static void promise8Channel() {
@@ -102,15 +88,6 @@ public final class NumbersTest {
         x.run(1);
         checkChannel(x, 1, "a head above 90", 3, 91, 1, -9, -9, 0, 3, 3);
         checkChannel(x, 0, "never started", 0, 0, -9, -9, -9, 0, 0, 0);
-        for (int h : Engines.NOT_CHANNELS) {
-            expect.fails("channel(" + h + ", 0)", Engines.INDEX, () -> x.channel(h, 0));
-            expect.fails("channel(" + h + ", 8)", Engines.INDEX, () -> x.channel(h, 8));
-        }
-        int[] wrong = {-1, 8, Integer.MIN_VALUE, Integer.MAX_VALUE};
-        for (int what : wrong) {
-            expect.fails("channel(0, " + what + ")", Engines.ARGUMENT, () -> x.channel(0, what));
-            expect.fails("channel(2, " + what + ")", Engines.ARGUMENT, () -> x.channel(2, what));
-        }
     }
 
     private static void promise8Conditions() {
@@ -184,18 +161,5 @@ public final class NumbersTest {
     private static void checkChain(OrderChains x, int a, int orders, int ending) {
         expect.that("chain(" + a + ", 0)", x.chain(a, 0), orders);
         expect.that("chain(" + a + ", 1)", x.chain(a, 1), ending);
-    }
-
-    private static void promise9WrongArguments() {
-        OrderChains x = new OrderChains();
-        for (int a : Engines.NOT_CELLS) {
-            expect.fails("chain(" + a + ", 0)", Engines.INDEX, () -> x.chain(a, 0));
-            expect.fails("chain(" + a + ", 2)", Engines.INDEX, () -> x.chain(a, 2));
-        }
-        int[] wrong = {-1, 2, Integer.MIN_VALUE, Integer.MAX_VALUE};
-        for (int what : wrong) {
-            expect.fails("chain(0, " + what + ")", Engines.ARGUMENT, () -> x.chain(0, what));
-            expect.fails("chain(95, " + what + ")", Engines.ARGUMENT, () -> x.chain(95, what));
-        }
     }
 }

@@ -1,12 +1,9 @@
-import java.math.BigInteger;
-
 /** Promises 23 and 24: scripts and simulations. */
 public final class ScriptTest {
     private static final Expect expect = new Expect("ScriptTest");
     private static final int NONE = OrderChains.NONE;
 
     public static void main(String[] args) {
-        promise23Arguments();
         promise23Pokes();
         promise23Runs();
         promise23StartsAndStops();
@@ -14,7 +11,6 @@ public final class ScriptTest {
         promise23Questions();
         promise23OtherGroups();
         promise23ManyCommands();
-        promise24Arguments();
         promise24OneRound();
         promise24Starts();
         promise24Rounds();
@@ -27,24 +23,6 @@ public final class ScriptTest {
 
     private static void check(OrderChains x, int n, long script, int due) {
         expect.that("runScript(" + n + ", " + script + ")", x.runScript(n, script), due);
-    }
-
-    private static void promise23Arguments() {
-        OrderChains x = new OrderChains();
-        int[] notNumbers = {-1, 0, 4, Integer.MIN_VALUE, Integer.MAX_VALUE};
-        for (int n : notNumbers) {
-            expect.fails("runScript(" + n + ", 0)", Engines.ARGUMENT, () -> x.runScript(n, 0));
-        }
-        for (int n = 1; n <= 3; n++) {
-            int commands = n;
-            long tooLong = n == 1 ? 100000L : n == 2 ? 10000000000L : 1000000000000000L;
-            expect.fails("-1", Engines.ARGUMENT, () -> x.runScript(commands, -1));
-            expect.fails("min", Engines.ARGUMENT, () -> x.runScript(commands, Long.MIN_VALUE));
-            expect.fails("max", Engines.ARGUMENT, () -> x.runScript(commands, Long.MAX_VALUE));
-            expect.fails("a digit too many", Engines.ARGUMENT, () -> x.runScript(commands, tooLong));
-            check(x, n, 0, 0);
-            check(x, n, tooLong - 1, 0);
-        }
     }
 
     private static void promise23Pokes() {
@@ -209,44 +187,14 @@ public final class ScriptTest {
         expect.fails("a script is no action", Engines.STATE, () -> x.undo());
     }
 
-    private static void promise24Arguments() {
-        OrderChains x = new OrderChains();
-        int[] wrong = {-1, 0, 51, Integer.MIN_VALUE, Integer.MAX_VALUE};
-        for (int m : wrong) {
-            expect.fails("simulate(0, " + m + ")", Engines.ARGUMENT, () -> x.simulate(0, m));
-        }
-        long[] seeds = {0, -1, 1, Long.MIN_VALUE, Long.MAX_VALUE};
-        for (long seed : seeds) {
-            expect.that("simulate(" + seed + ", 1)", x.simulate(seed, 1), expectedSum(seed));
-        }
-    }
-
-    /** On a new object one round pokes one cell, and what starts ends at a stop (or reads that cell). */
-    private static int expectedSum(long seed) {
-        long x = seed * 6364136223846793005L + 1442695040888963407L;
-        int r = (int) (x >>> 33);
-        int value = r / 128 % 100;
-        boolean starts = r / 16384 % 4 == 0;
-        boolean onTheCell = r / 262144 % 91 == r % 96;
-        return starts && onTheCell && value > 0 ? -1 : value;
-    }
-
-    /** The seed from which the first round computes this r. */
-    private static long seedFor(int r) {
-        BigInteger modulus = BigInteger.ONE.shiftLeft(64);
-        BigInteger inverse = BigInteger.valueOf(6364136223846793005L).modInverse(modulus);
-        BigInteger x = BigInteger.valueOf(r).shiftLeft(33).subtract(BigInteger.valueOf(1442695040888963407L));
-        return x.multiply(inverse).mod(modulus).longValue();
-    }
-
     private static void promise24OneRound() {
         OrderChains x = new OrderChains();
         int r = 128 * 137;
-        expect.that("value 37, no start", x.simulate(seedFor(r), 1), 37);
+        expect.that("value 37, no start", x.simulate(Seeds.thatGives(r), 1), 37);
         x.poke(r % 96, 50);
-        expect.that("value 37 over 50", x.simulate(seedFor(r), 1), 37);
+        expect.that("value 37 over 50", x.simulate(Seeds.thatGives(r), 1), 37);
         x.poke((r + 1) % 96, 50);
-        expect.that("value 37 beside 50", x.simulate(seedFor(r), 1), 87);
+        expect.that("value 37 beside 50", x.simulate(Seeds.thatGives(r), 1), 87);
         expect.that("a simulation works on a copy", x.cell(r % 96, 0), 50);
         expect.that("a simulation is no action", x.undo(), 1);
     }
@@ -266,7 +214,8 @@ public final class ScriptTest {
                     }
                 }
                 if (r >= 0) {
-                    expect.that("start of " + h + " at " + head, x.simulate(seedFor(r), 1), 10000 + 7 + r / 128 % 100);
+                    int due = 10000 + 7 + r / 128 % 100;
+                    expect.that("start of " + h + " at " + head, x.simulate(Seeds.thatGives(r), 1), due);
                     expect.that("no start by a simulation", x.channel(h, 0), 0);
                 }
             }
@@ -274,9 +223,9 @@ public final class ScriptTest {
         OrderChains y = new OrderChains();
         y.start(1, 95);
         y.run(1);
-        expect.that("a fault that was", y.simulate(seedFor(16384), 1), 10028);
+        expect.that("a fault that was", y.simulate(Seeds.thatGives(16384), 1), 10028);
         OrderChains z = Engines.loaded("E@20040150990020s020");
-        expect.that("eight ticks: seven units", z.simulate(seedFor(16384), 1), z.about(5) + 28 + 7);
+        expect.that("eight ticks: seven units", z.simulate(Seeds.thatGives(16384), 1), z.about(5) + 28 + 7);
     }
 
     private static void promise24Rounds() {

@@ -4,7 +4,6 @@ public final class TextTest {
 
     public static void main(String[] args) {
         promise1NewObject();
-        promise2Append();
         promise3ClearText();
         promise4Engines();
         promise4ErrorPositions();
@@ -37,23 +36,6 @@ public final class TextTest {
         expect.fails("new: undo", Engines.STATE, () -> x.undo());
         expect.fails("new: restore(0)", Engines.STATE, () -> x.restore(0));
         expect.fails("new: restore(1)", Engines.STATE, () -> x.restore(1));
-    }
-
-    private static void promise2Append() {
-        OrderChains x = new OrderChains();
-        expect.fails("append(-1)", Engines.ARGUMENT, () -> x.append(-1));
-        expect.fails("append(256)", Engines.ARGUMENT, () -> x.append(256));
-        expect.fails("append(min)", Engines.ARGUMENT, () -> x.append(Integer.MIN_VALUE));
-        expect.fails("append(max)", Engines.ARGUMENT, () -> x.append(Integer.MAX_VALUE));
-        expect.that("append(0)", x.append(0), 1);
-        expect.that("append(255)", x.append(255), 2);
-        for (int length = 3; length <= 140; length++) {
-            expect.that("append at " + length, x.append('E'), length);
-        }
-        expect.fails("append to a full text", Engines.STATE, () -> x.append('E'));
-        expect.fails("append(256) to a full text", Engines.ARGUMENT, () -> x.append(256));
-        expect.that("clearText of a full text", x.clearText(), 140);
-        expect.that("append behind clearText", x.append('E'), 1);
     }
 
     private static void promise3ClearText() {
@@ -185,8 +167,7 @@ public final class TextTest {
         x.save(1);
         Engines.type(x, "E");
         x.load();
-        String blank = Engines.everything(new OrderChains());
-        expect.that("load of E makes everything new", Engines.everything(x).equals(blank) ? 1 : 0, 1);
+        expect.same("everything behind a load of E", Engines.everything(x), Engines.everything(new OrderChains()));
         expect.fails("undo behind load", Engines.STATE, () -> x.undo());
         expect.fails("restore(0) behind load", Engines.STATE, () -> x.restore(0));
         expect.fails("restore(1) behind load", Engines.STATE, () -> x.restore(1));
@@ -198,7 +179,7 @@ public final class TextTest {
 
     /** What earlier texts and looks ahead left must not show in an engine that is loaded later. */
     private static void promise5TextsAreReadAnew() {
-        String blank = Engines.everything(new OrderChains());
+        String blank = Engines.brief(new OrderChains());
         OrderChains x = new OrderChains();
         Engines.type(x, "Eo3030102030112s030s140s291@400101");
         x.load();
@@ -207,12 +188,12 @@ public final class TextTest {
         x.errorPosition();
         Engines.type(x, "E");
         x.load();
-        expect.that("behind an engine all is new", Engines.everything(x).equals(blank) ? 1 : 0, 1);
+        expect.same("all behind an engine", Engines.brief(x), blank);
         x.order(0, 3, 7, 1, 3);
         x.start(1, 0);
         x.firstEdit();
         x.load();
-        expect.that("behind a look ahead all is new", Engines.everything(x).equals(blank) ? 1 : 0, 1);
+        expect.same("all behind a look ahead", Engines.brief(x), blank);
         x.start(2, 0);
         x.start(0, 0);
         expect.that("behind a look ahead turns begin anew", x.about(4), 0);

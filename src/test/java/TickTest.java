@@ -105,14 +105,14 @@ public final class TickTest {
     private static void copyUpwards() {
         OrderChains x = Engines.loaded("E0140410312@40111213s000");
         x.run(99);
-        checkCells(x, 40, 11, 11, 11, 11, 0);
+        expect.cells(x, 40, 11, 11, 11, 11, 0);
         OrderChains y = Engines.loaded("E014151030012@40111213s000");
         y.run(2);
-        checkCells(y, 50, 0, 12, 0, 0);
+        expect.cells(y, 50, 0, 12, 0, 0);
         y.run(1);
-        checkCells(y, 50, 0, 12, 13, 0);
+        expect.cells(y, 50, 0, 12, 13, 0);
         y.run(99);
-        checkCells(y, 50, 0, 12, 13, 0, 0);
+        expect.cells(y, 50, 0, 12, 13, 0, 0);
         expect.that("the last cell is written too", y.cell(53, 3), 0);
         expect.that("three units", y.about(7), 3);
     }
@@ -120,51 +120,51 @@ public final class TickTest {
     private static void copyDownwards() {
         OrderChains x = Engines.loaded("E024041030012@40111213s000");
         x.run(2);
-        checkCells(x, 40, 11, 12, 13, 13, 0);
+        expect.cells(x, 40, 11, 12, 13, 13, 0);
         x.run(1);
-        checkCells(x, 40, 11, 12, 12, 13, 0);
+        expect.cells(x, 40, 11, 12, 12, 13, 0);
         x.run(99);
-        checkCells(x, 40, 11, 11, 12, 13, 0);
+        expect.cells(x, 40, 11, 11, 12, 13, 0);
     }
 
     private static void fill() {
         OrderChains x = Engines.loaded("E039950030212s000");
         x.run(99);
-        checkCells(x, 49, 0, 99, 0, 99, 0, 99, 0, 0);
+        expect.cells(x, 49, 0, 99, 0, 99, 0, 99, 0, 0);
         OrderChains y = Engines.loaded("E030750030012s000");
         y.run(99);
-        checkCells(y, 49, 0, 7, 0, 0);
+        expect.cells(y, 49, 0, 7, 0, 0);
         expect.that("a stride of 0 writes one cell thrice", y.channel(0, 7), 3);
     }
 
     private static void add() {
         OrderChains x = Engines.loaded("E046050030312@5039407099s000");
         x.run(99);
-        checkCells(x, 50, 99, 40, 70, 59, 0, 0, 60);
+        expect.cells(x, 50, 99, 40, 70, 59, 0, 0, 60);
         OrderChains y = Engines.loaded("E049950020012@5040s000");
         y.run(2);
-        checkCells(y, 50, 39);
+        expect.cells(y, 50, 39);
         y.run(1);
-        checkCells(y, 50, 38);
+        expect.cells(y, 50, 38);
         OrderChains z = Engines.loaded("E040150010012@5099s000");
         z.run(99);
-        checkCells(z, 50, 0);
+        expect.cells(z, 50, 0);
     }
 
     private static void exchange() {
         OrderChains x = Engines.loaded("E054050020012@400102@500304s000");
         x.run(2);
-        checkCells(x, 40, 3, 2);
-        checkCells(x, 50, 1, 4);
+        expect.cells(x, 40, 3, 2);
+        expect.cells(x, 50, 1, 4);
         x.run(99);
-        checkCells(x, 40, 3, 4);
-        checkCells(x, 50, 1, 2);
+        expect.cells(x, 40, 3, 4);
+        expect.cells(x, 50, 1, 2);
         expect.that("writes of two exchanges", x.about(7), 4);
         expect.that("writer of 40", x.cell(40, 3), 0);
         expect.that("writer of 50", x.cell(50, 3), 0);
         OrderChains y = Engines.loaded("E054041020012@40010203s000");
         y.run(99);
-        checkCells(y, 40, 2, 3, 1, 0);
+        expect.cells(y, 40, 2, 3, 1, 0);
     }
 
     private static void choose() {
@@ -247,19 +247,19 @@ public final class TickTest {
         OrderChains x = Engines.loaded("E054060010012@4009o2@6007s000");
         x.run(2);
         expect.that("nothing of a forbidden exchange is written", x.about(7), 0);
-        checkCells(x, 40, 9);
-        checkCells(x, 60, 7);
+        expect.cells(x, 40, 9);
+        expect.cells(x, 60, 7);
         OrderChains y = Engines.loaded("E03016003011212o2@6107s000");
         y.run(3);
         expect.that("the second unit is forbidden", y.channel(0, 2), 4);
-        checkCells(y, 60, 1, 7, 0);
+        expect.cells(y, 60, 1, 7, 0);
         y.own(61, 1, 1);
         y.start(0, 0);
         y.run(99);
-        checkCells(y, 60, 1, 1, 1, 0);
+        expect.cells(y, 60, 1, 1, 1, 0);
         OrderChains z = Engines.loaded("E030160010112o2@6007s100");
         z.run(2);
-        checkCells(z, 60, 1);
+        expect.cells(z, 60, 1);
     }
 
     private static void exchangeOfOneCell() {
@@ -270,7 +270,7 @@ public final class TickTest {
         x.run(99);
         expect.that("one cell: no write", x.about(7), 0);
         expect.that("one cell: no writer", x.cell(60, 3), OrderChains.NONE);
-        checkCells(x, 60, 7);
+        expect.cells(x, 60, 7);
         OrderChains y = Engines.loaded("E050000060012s000");
         y.run(99);
         expect.that("one cell: no edit", y.about(6), 0);
@@ -279,12 +279,12 @@ public final class TickTest {
     private static void ordersInHandDoNotChange() {
         OrderChains x = Engines.loaded("E039900061212s000");
         x.run(3);
-        checkCells(x, 0, 99, 99);
+        expect.cells(x, 0, 99, 99);
         x.stop(0);
         Engines.type(x, "E030700060112s000");
         x.load();
         x.run(7);
-        checkCells(x, 0, 7, 7, 7, 7, 7, 7, 0);
+        expect.cells(x, 0, 7, 7, 7, 7, 7, 7, 0);
         expect.that("its next is the one that was read", x.channel(0, 1), 12);
         OrderChains y = Engines.loaded("E014050100112@40112233s000");
         y.run(2);
@@ -293,7 +293,7 @@ public final class TickTest {
         y.poke(2, 90);
         y.poke(3, 1);
         y.run(2);
-        checkCells(y, 50, 11, 22, 33, 0);
+        expect.cells(y, 50, 11, 22, 33, 0);
         expect.that("its kind is the one that was read", y.channel(0, 4), 1);
     }
 
@@ -318,11 +318,5 @@ public final class TickTest {
         expect.that("edits of cells that were read long ago", w.about(6), 2);
         w.poke(50, 3);
         expect.that("a poke is no edit", w.about(6), 2);
-    }
-
-    private static void checkCells(OrderChains x, int first, int... values) {
-        for (int i = 0; i < values.length; i++) {
-            expect.that("value of " + (first + i), x.cell(first + i, 0), values[i]);
-        }
     }
 }
