@@ -193,7 +193,8 @@ public final class LookAheadEdgesTest {
     /** "Returns its value behind n ticks". */
     private static void laterBehind500Ticks() {
         OrderChains x = longRun(97, 3, 7, 95, 1, 1, 0);
-        expect.that("behind no tick", x.later(80, 0), 0);
+        expect.that("behind no tick, a value that is 0", x.later(80, 0), 0);
+        expect.that("behind no tick, a value that is 99", x.later(3, 0), 99);
         expect.that("behind reading", x.later(80, 1), 0);
         expect.that("behind the first unit", x.later(80, 2), 1);
         expect.that("a write in the tick 500, behind 499", x.later(95, 499), 0);

@@ -28,6 +28,7 @@ public final class TextEdgesTest {
         everyCodeAtEveryPlace();
         theFirstOfSeveralWrongCharacters();
         textsThatEndTooSoon();
+        errorPositionChangesNothing();
         loadCountsNoneToThreeChannels();
         loadIsAheadOfTheFirstTick();
         loadForgetsAllRememberedStates();
@@ -186,8 +187,8 @@ public final class TextEdgesTest {
         checkText("E@9511s0000", 10);
         checkText("E@9511@9522", NONE);
         checkText("E@9511@95220", 11);
-        OrderChains x = Engines.loaded("E@9511@9522@0033");
-        expect.that("cell 95 told twice", x.cell(95, 0), 22);
+        OrderChains x = Engines.loaded("E@9522@9511@0033");
+        expect.that("cell 95 told twice", x.cell(95, 0), 11);
         expect.that("cell 0 behind cell 95", x.cell(0, 0), 33);
     }
 
@@ -210,8 +211,8 @@ public final class TextEdgesTest {
             expect.that("owner of " + row[0], x.cell(row[0], 1), row[1]);
         }
         expect.that("cells with an owner", x.about(9), 3);
-        OrderChains again = Engines.loaded("Eo310@0011o0@0012");
-        expect.that("a cell told again gets the owner of then", again.cell(0, 1), 0);
+        expect.that("a cell told again gets the owner of then", Engines.loaded("Eo310o2@0011").cell(0, 1), 2);
+        OrderChains again = Engines.loaded("Eo310");
         Engines.type(again, "E10");
         again.load();
         expect.that("0 at first means for each text", again.cell(0, 1), 0);
@@ -321,6 +322,26 @@ public final class TextEdgesTest {
         }
     }
 
+    /** "Checks the text.": neither an engine nor another text becomes the state. */
+    private static void errorPositionChangesNothing() {
+        String[] texts = {"E@50o17708s112s230", "E@50o17708s112s2305", "E"};
+        for (String text : texts) {
+            OrderChains x = Engines.typed(text);
+            x.order(0, 3, 7, 60, 3);
+            x.start(0, 0);
+            x.run(2);
+            x.errorPosition();
+            OrderChains untouched = new OrderChains();
+            untouched.order(0, 3, 7, 60, 3);
+            untouched.start(0, 0);
+            untouched.run(2);
+            expect.same("the state behind errorPosition of " + text, Engines.everything(x),
+                Engines.everything(untouched));
+            expect.that("undo behind it", x.undo(), 2);
+            expect.that("the text behind it", x.clearText(), text.length());
+        }
+    }
+
     /** "Returns the number of busy channels." */
     private static void loadCountsNoneToThreeChannels() {
         String[] texts = {"E00", "Es295", "Es295s000", "Es295s000s191"};
@@ -334,13 +355,15 @@ public final class TextEdgesTest {
         String text = "E030101020112@2004010202s000s120";
         OrderChains x = Engines.loaded(text);
         x.start(2, 93);
-        x.own(0, 96, 3);
         x.run(8);
+        x.own(0, 96, 3);
         x.poke(95, 9);
+        x.later(95, 500);
         x.load();
         expect.same("an engine that is loaded again", Engines.everything(x), Engines.everything(Engines.loaded(text)));
         OrderChains y = Engines.loaded("Es000s120s240");
-        y.run(2);
+        y.run(1);
+        y.later(0, 1);
         y.load();
         expect.that("the turns begin at channel 0 again", y.about(4), 0);
     }

@@ -9,10 +9,12 @@ public final class TickEdgesTest {
         behindTheLastChannelComesTheFirst();
         channelsThatAreNotBusyAreLeftOut();
         theOnlyBusyChannelHasEachTick();
+        turnsGoOnBehindAPause();
         noTickIfNoneIsBusy();
         headsFrom90To95();
         headsAboveTheCells();
         marksOfTheFirstAndOfTheLastOrder();
+        marksOfNoCellButThoseOfOrders();
         kindsFrom0To99();
         count0EndsAtOnce();
         count0OfAChoice();
@@ -116,6 +118,20 @@ public final class TickEdgesTest {
         }
     }
 
+    /** "behind that which had the last tick": also if none was busy for a while. */
+    private static void turnsGoOnBehindAPause() {
+        for (int h = 0; h < 3; h++) {
+            OrderChains x = threeFills();
+            x.start(h, 90);
+            x.run(1);
+            expect.that("no turn behind " + h, x.about(4), NONE);
+            for (int k = 0; k < 3; k++) {
+                x.start(k, 6 * k);
+            }
+            checkTurns(x, (h + 1) % 3, (h + 2) % 3, h);
+        }
+    }
+
     /** "There is no tick if none is busy." */
     private static void noTickIfNoneIsBusy() {
         OrderChains x = new OrderChains();
@@ -167,6 +183,18 @@ public final class TickEdgesTest {
             x.run(1);
             for (int c = 0; c < 96; c++) {
                 expect.that("order at " + a + ": mark of " + c, x.cell(c, 2), c >= a && c < a + 6 ? 1 : 0);
+            }
+        }
+    }
+
+    /** The same: what the units of an order read or write is not marked. */
+    private static void marksOfNoCellButThoseOfOrders() {
+        for (int kind = 1; kind <= 6; kind++) {
+            OrderChains x = Engines.ordered(0, 0, kind, 40, 50, 2, 1, 91);
+            x.run(99);
+            int orders = kind == 6 ? 2 : 1;
+            for (int c = 0; c < 96; c++) {
+                expect.that("kind " + kind + ": mark of " + c, x.cell(c, 2), c < 6 * orders ? 1 : 0);
             }
         }
     }
