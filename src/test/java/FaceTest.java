@@ -8,17 +8,24 @@ import java.util.TreeSet;
 /** The public face: the document's constants, constructor and methods, and no other. */
 public final class FaceTest {
     private static final Expect expect = new Expect("FaceTest");
+    private static final int MOST_PARAMETERS = 7;
+    private static final int MOST_FIELDS = 20;
+    /** Behind each method its exceptions: I IndexOutOfBounds-, A IllegalArgument-, S IllegalStateException. */
     private static final String[] FACE = {
-        "append(int)", "clearText()", "errorPosition()", "load()", "about(int)", "cell(int,int)",
-        "channel(int,int)", "chain(int,int)", "poke(int,int)", "order(int,int,int,int,int)", "own(int,int,int)",
-        "start(int,int)", "stop(int)", "run(int)", "undo()", "ends(int)", "endOf(int)", "later(int,int)",
-        "contested(int)", "firstEdit()", "alone(int)", "runScript(int,long)", "simulate(long,int)", "save(int)",
-        "restore(int)"};
+        "append(int)AS", "clearText()", "errorPosition()", "load()S", "about(int)A", "cell(int,int)IA",
+        "channel(int,int)IA", "chain(int,int)IA", "poke(int,int)IA", "order(int,int,int,int,int)IA",
+        "own(int,int,int)IA", "start(int,int)I", "stop(int)IS", "run(int)AS", "undo()S", "ends(int)I", "endOf(int)I",
+        "later(int,int)IA", "contested(int)A", "firstEdit()", "alone(int)I", "runScript(int,long)A",
+        "simulate(long,int)A", "save(int)I", "restore(int)IS"};
 
     public static void main(String[] args) {
         constants();
         methods();
         fieldsAndConstructors();
+        sizes(OrderChains.class);
+        for (Class<?> inside : OrderChains.class.getDeclaredClasses()) {
+            sizes(inside);
+        }
         expect.finish();
     }
 
@@ -57,7 +64,32 @@ public final class FaceTest {
         for (int i = 0; i < types.length; i++) {
             all.append(i == 0 ? "" : ",").append(types[i].getSimpleName());
         }
-        return all.append(')').toString();
+        all.append(')');
+        for (Class<?> exception : method.getExceptionTypes()) {
+            all.append(letter(exception));
+        }
+        return all.toString();
+    }
+
+    private static char letter(Class<?> exception) {
+        return exception == Engines.INDEX ? 'I' : exception == Engines.ARGUMENT ? 'A'
+            : exception == Engines.STATE ? 'S' : '?';
+    }
+
+    /** Fields beside the constants, which are final, and parameters: the language allows a few. */
+    private static void sizes(Class<?> type) {
+        int fields = 0;
+        for (Field field : type.getDeclaredFields()) {
+            boolean isStatic = Modifier.isStatic(field.getModifiers());
+            fields += isStatic ? 0 : 1;
+            boolean isConstant = isStatic && Modifier.isFinal(field.getModifiers());
+            expect.that("final " + type + " " + field.getName(), isConstant ? 1 : 0, isStatic ? 1 : 0);
+        }
+        expect.that("many fields in " + type, fields > MOST_FIELDS ? 1 : 0, 0);
+        for (Method method : type.getDeclaredMethods()) {
+            boolean many = method.getParameterCount() > MOST_PARAMETERS;
+            expect.that("many parameters of " + signature(method), many ? 1 : 0, 0);
+        }
     }
 
     private static void fieldsAndConstructors() {
